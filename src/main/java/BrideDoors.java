@@ -737,8 +737,7 @@ public final class BrideDoors {
     /** Rows of numbers, held by column and then by row. */
     private static final class Table {
         final int[][] cells;
-        private final int columns;
-        final int most;
+        final int columns, most;
         int size = 0;
 
         Table(int columns, int most) {

@@ -7,7 +7,10 @@ public final class DigestTest {
     public static void main(String[] args) {
         count();
         digestOfNothing();
-        digestIsWhatIsAsked();
+        digestIsWhatIsAsked(village());
+        digestIsWhatIsAsked(Check.told("sh;", "0a8j;1b8k"));
+        digestIsWhatIsAsked(Check.told("sh;wg", "0a8j;1b8"));
+        digestIsWhatIsAsked(Check.told("", "0a8j;1b8k"));
         digestChangesNothing();
         check.finish();
     }
@@ -24,6 +27,7 @@ public final class DigestTest {
 
     private static void count() {
         BrideDoors x = village();
+        check.due("count(6), asked first", x.count(6), 2);
         x.lose(0);
         x.sheet(0, 0, -1);
         int[] want = {3, 8, 8, 39, 4, 11, 2, 1, 5};
@@ -72,14 +76,13 @@ public final class DigestTest {
         for (int what = 0; what <= 1; what++) add(x.from(bride, what));
     }
 
-    private static void digestIsWhatIsAsked() {
-        BrideDoors x = village();
+    private static void digestIsWhatIsAsked(BrideDoors x) {
         h = 17;
         for (int what = 0; what <= 7; what++) add(x.count(what));
         add(x.fault(0));
         add(x.fault(1));
-        for (int house = 0; house < 3; house++) addHouse(x, house);
-        for (int bride = 0; bride < 8; bride++) addBride(x, bride);
+        for (int house = 0; house < x.count(0); house++) addHouse(x, house);
+        for (int bride = 0; bride < x.count(1); bride++) addBride(x, bride);
         for (int year = 0; year < 24; year++) add(x.draught(year));
         add(x.dog(0));
         add(x.dog(1));

@@ -9,6 +9,7 @@ public final class PlansTest {
         from();
         refusals();
         spare();
+        spareAfterEachChange();
         check.finish();
     }
 
@@ -89,6 +90,31 @@ public final class PlansTest {
         check.due(what + ": spare(1)", x.spare(1), second);
     }
 
+    /** The class remembers which houses are open without which events: each change must make it forget. */
+    private static void spareAfterEachChange() {
+        BrideDoors x = Check.told("sj", "0a8j");
+        check.due("a door", x.spare(NONE), 0);
+        x.undo(1);
+        check.due("undo: no bride", x.spare(NONE), NONE);
+        x.type(1, 'j');
+        check.due("type: a door", x.spare(NONE), 0);
+        x.wipe(1);
+        check.due("wipe: no bride", x.spare(NONE), NONE);
+        x.wipe(0);
+        check.due("wipe: no house", x.spare(NONE), 0);
+        Check.retype(x, 0, "sj");
+        Check.retype(x, 1, "0a8j");
+        check.due("type: a door", x.spare(NONE), 0);
+        x.sheet(0, 0, 3);
+        x.lay(0, 0, 1, 2);
+        x.read(0);
+        check.due("read: hard times", x.spare(NONE), 1);
+        x.back();
+        check.due("back: no hard times", x.spare(NONE), 0);
+        x.event(2, 5, 0);
+        check.due("event: a burglar", x.spare(NONE), 1);
+    }
+
     private static void spare() {
         spared("no houses", new BrideDoors(), 0, NONE, NONE);
         spared("no bride", Check.told("sj", ""), NONE, NONE, NONE);
@@ -110,6 +136,11 @@ public final class PlansTest {
         spared("another door", x, 0, NONE, NONE);
         x.event(2, 3, 0);
         spared("either of two", x, 1, 1, NONE);
+        BrideDoors first = Check.told("sj", "0a8j");
+        first.event(0, 1, 0);
+        first.event(1, 1, 0);
+        first.event(2, 2, 0);
+        spared("the first and the last of three", first, 2, 0, 2);
         BrideDoors pairs = Check.told("sj;sj", "0a8j;1a8j");
         pairs.event(1, 1, 0);
         pairs.event(0, 2, 1);

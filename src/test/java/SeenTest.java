@@ -131,6 +131,12 @@ public final class SeenTest {
         narrower.back();
         narrower.seen(5, 0, 0);
         check.due("of those that fit", narrower.ask(0), 9);
+        BrideDoors least = Check.told("sj", "0a8t");
+        least.event(1, 1, 0);
+        check.due("the carpenter leaves 1 alone, as none is lower", least.ask(0), 1);
+        BrideDoors greatest = Check.told("sj", "0a8t;0a8s");
+        greatest.event(0, 1, 0);
+        check.due("only of 20 it makes a difference which is burnt", greatest.ask(0), 1);
         check.due("ask(1)", x.ask(1), BAD);
         check.due("ask(-1)", x.ask(-1), BAD);
     }
@@ -188,7 +194,8 @@ public final class SeenTest {
         check.due("events stay as told", x.count(4), 1);
     }
 
-    /** The lots: 0 gives (0, 20, 0), (0, 18, 3); 46 (2, 11, 0); -1 (1, 17, 4), (2, 1, 4), (1, 7, 0); 598 (2, 8, 0), (2, 9, 0). */
+    /** The lots: 0 gives (0, 20, 0), (0, 18, 3); 46 (2, 11, 0); -1 (1, 17, 4), (2, 1, 4), (1, 7, 0); 598 (2, 8, 0), (2, 9, 0);
+     * of 77 the eighth, (2, 14, 0), is the first at house 0. */
     private static void ages() {
         agesAre("sj", "0a8j", 46, 0, 0, 0);
         agesAre("sj", "0k8j", 46, 1, 10, 1);
@@ -201,6 +208,8 @@ public final class SeenTest {
         agesAre("sj", "0a8j", -1, 3, 1, 0);
         agesAre("sj", "0a8j;0a8c", 598, 1, 0, 1);
         agesAre("sj", "0a8j;0a8c", 598, 2, 10, 2);
+        agesAre("sj", "0a8j", 77, 7, 0, 0);
+        agesAre("sj", "0a8j", 77, 8, 10, 1);
         agesAre("", "", -2147483648, 8, 0, 0);
         BrideDoors x = new BrideDoors();
         int[][] bad = {{7, -1, 0}, {7, 9, 0}, {7, 6, -1}, {7, 6, 2}};

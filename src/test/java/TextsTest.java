@@ -107,6 +107,7 @@ public final class TextsTest {
         faultOf(0, "sa;sz;sa", 4);
         faultOf(0, "xsa;sa", 0);
         faultOf(0, "sa:sa", 2);
+        faultOf(0, "sa<sa", 2);
         faultOf(0, "\0", 0);
         faultOf(0, "s\u00ff", 1);
         faultOf(0, SIX_HOUSES.substring(0, 16), 16);
@@ -148,6 +149,9 @@ public final class TextsTest {
         x.undo(1);
         x.undo(1);
         check.due("houses are back", x.count(0), 2);
+        x.type(0, 'x');
+        check.due("a wrong sign behind houses that were well", x.count(0), 0);
+        x.undo(0);
         check.due("brides are back", x.count(1), 2);
     }
 

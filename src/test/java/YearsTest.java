@@ -173,6 +173,12 @@ public final class YearsTest {
         for (int b = 1; b <= 5; b++) {
             door(nowhere, 23, b, 4, 0, 0);
         }
+        BrideDoors gone = Check.told("sj", "0c1a;0a8i");
+        door(gone, 2, 0, 1, 7, 0);
+        for (int i = 0; i < 5; i++) {
+            gone.undo(1);
+        }
+        door(gone, 2, 0, 4, 0, 0);
         BrideDoors sameYear = Check.told("sj", "0a1t;0a8i;0a1t");
         door(sameYear, 0, 0, 4, 0, 0);
         door(sameYear, 0, 1, 1, 9, 0);
@@ -186,6 +192,9 @@ public final class YearsTest {
         BrideDoors five = Check.told("st;st;st", "2d8o;1d8o;0e8a");
         check.due("a gap of 5: dog(0)", five.dog(0), 3);
         check.due("the least such house: dog(1)", five.dog(1), 1);
+        BrideDoors burnt = Check.told("st", "0a8t;0a8o");
+        burnt.event(0, 4, 0);
+        check.due("behind hard times: dog(0)", burnt.dog(0), 4);
         BrideDoors later = Check.told("sf", "0x8a");
         check.due("in the last year: dog(0)", later.dog(0), 23);
         check.due("in the last year: dog(1)", later.dog(1), 0);
