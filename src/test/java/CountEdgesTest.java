@@ -15,9 +15,16 @@ public final class CountEdgesTest {
         counts();
         draughtBehindTheLast();
         burnt();
+        seen();
         latestFinding();
         digestWraps();
         digestOfEachThing();
+        digestYearsOfHouses();
+        digestYearsOfBrides();
+        digestSeen();
+        digestPlans();
+        digestOfAll();
+        digestAges();
         digestLeavesAll();
         check.finish();
     }
@@ -63,6 +70,20 @@ public final class CountEdgesTest {
         check.due("more often than there are doors", Check.told("st", "0a8a", 0, 1, 0, 0, 2, 0).count(6), 1);
         check.due("stolen ones are not", Check.told("st", "0a8a", 2, 1, 0).count(6), 0);
         check.due("none hangs yet", Check.told("st", "0x8a", 0, 23, 0).count(6), 0);
+    }
+
+    private static void seen() {
+        check.sentence("7 SEEN");
+        BrideDoors x = new BrideDoors();
+        check.due("none", x.count(7), 0);
+        for (int i = 1; i <= 8; i++) {
+            x.seen(0, 5, 20);
+            check.due("of " + i, x.count(7), i);
+        }
+        x.seen(0, 5, 20);
+        check.due("a ninth is not kept", x.count(7), 8);
+        x.forget();
+        check.due("forgotten", x.count(7), 0);
     }
 
     private static void latestFinding() {
@@ -166,6 +187,74 @@ public final class CountEdgesTest {
             seen.seen(23, 2, gap);
             check.due("with what was seen", seen.digest(), digestOf(parts(seen)));
         }
+    }
+
+    private static void digestIsOfItsParts(String what, BrideDoors x) {
+        check.due(what, x.digest(), digestOf(parts(x)));
+    }
+
+    /** A door that is lower behind each year in which a carpenter comes, and so behind it and not ahead of it. */
+    private static void digestYearsOfHouses() {
+        check.sentence("of YEARS 0, 7, 15, 23 at(the YEAR, it, 0 to 4)");
+        for (int year = 0; year <= 23; year++) {
+            digestIsOfItsParts("a carpenter in " + year, Check.told("st", "0a8t", 1, year, 0));
+            digestIsOfItsParts("a bride in " + year, Check.told("tc", "0" + (char) ('a' + year) + "8t"));
+            digestIsOfItsParts("hard times in " + year, Check.told("st;sa", "0a8t;0a8c", 0, year, 0));
+        }
+    }
+
+    private static void digestYearsOfBrides() {
+        check.sentence("of YEARS 7, 15, 23 door(the YEAR, it, 0 to 2)");
+        for (int year = 0; year <= 23; year++) {
+            digestIsOfItsParts("a burglar in " + year, Check.told("sr", "0a8t;0a8t", 2, year, 0));
+            digestIsOfItsParts("one who brings none in " + year, Check.told("st", "0" + (char) ('a' + year) + "0t"));
+        }
+    }
+
+    private static void digestSeen() {
+        check.sentence("then was() 0, 1, ask(), chance(5, it), above, below");
+        digestIsOfItsParts("asked best in the last year", Check.told("sj", "0a8t", 0, 23, 0));
+        for (int gap = 0; gap <= 20; gap++) {
+            BrideDoors x = Check.told("we;st", "0a8t;1a8t", 0, 9, 0, 2, 9, 1);
+            x.seen(23, 0, gap);
+            digestIsOfItsParts("seen at " + gap, x);
+        }
+        digestIsOfItsParts("a chance of 5 by 16", Check.told("sj", "0a8j", 0, 9, 0));
+        digestIsOfItsParts("a chance of 0 by 1", Check.told("sj", "0a8j"));
+    }
+
+    private static void digestOfAll() {
+        check.sentence("of YEARS 0 to 23 draught(); dog() 0, 1, lowest(), left() 0, 1, spare(NONE), spare(0)");
+        digestIsOfItsParts("a dog in the last year", Check.told("sa;st", "1x8a"));
+        digestIsOfItsParts("two that had better not be", Check.told("sj", "0a8j", 1, 1, 0, 0, 2, 0, 0, 3, 0));
+        digestIsOfItsParts("none that will do", Check.told("sj;sj", "0a8j", 0, 2, 0));
+        digestIsOfItsParts("some on the moor", Check.told("sj;sj", "0a8j;0a8c;1a8d", 2, 2, 0, 2, 2, 1));
+        digestIsOfItsParts("a lowest door", Check.told("sj;sj", "0a8j;0a8c;1a8d", 0, 2, 0));
+    }
+
+    private static void digestPlans() {
+        check.sentence("then kin(), wed() 0, 1, when() 0, 1, from() 0, 1");
+        digestIsOfItsParts("best in the last year", Check.told("sj", "0a8j", 0, 23, 0));
+        digestIsOfItsParts("best in the first year", Check.told("sj", "0x8j"));
+        digestIsOfItsParts("best in the last house", Check.told("sa;sa;sa;sa;sa;st", "0a8t"));
+        digestIsOfItsParts("best with a mother that there is not", Check.told("te", "0a8t", 0, 23, 0));
+        digestIsOfItsParts("best without a mother", Check.told("st", "0a0t"));
+        digestIsOfItsParts("no house to come to", Check.told("", "0a0t"));
+        digestIsOfItsParts("kin that go round", Check.told("", "0a0t;0a0t"));
+    }
+
+    /** By seed 7 the sixth is a carpenter in year 1 and the seventh hard times in year 4, both at house 2. */
+    private static void digestAges() {
+        check.sentence("never(), ages(7, 6, 0 and 1)");
+        String houses = "sg;ta;si;sj;sl;tf", brides = "4l8h;1j5a;5v6k;5q2i;0m8n;2a8g;4b1h;0t8r";
+        int[][] want = {{34, 1}, {33, 1}, {30, 0}};
+        for (int n = 5; n <= 7; n++) {
+            for (int what = 0; what < 2; what++) {
+                check.due("ages(7, " + n + ", " + what + ")", Check.told(houses, brides).ages(7, n, what), want[n - 5][what]);
+            }
+        }
+        digestIsOfItsParts("each of them is another", Check.told(houses, brides));
+        digestIsOfItsParts("whatever is told", Check.told(houses, brides, 0, 23, 0, 2, 23, 1));
     }
 
     private static void digestLeavesAll() {

@@ -31,6 +31,7 @@ public final class EventEdgesTest {
         readWhole();
         readMayBe();
         readRoom();
+        readRefused();
         check.finish();
     }
 
@@ -401,6 +402,12 @@ public final class EventEdgesTest {
         check.due("hard times", x.door(5, 0, 0), 2);
         check.due("the last is the last", x.back(), 2);
         check.due("hard times are undone", x.door(5, 0, 0), 1);
+    }
+
+    private static void readRefused() {
+        check.sentence("how many came. BAD; NULL.");
+        BrideDoors x = Check.told("sj", "0a8j", 1, 1, 0);
+        x.sheet(0, 0, 3);
         for (int s : new int[] {-1, 4, FAR[0], FAR[1]}) {
             check.due("read(" + s + ")", x.read(s), BAD);
         }
@@ -409,7 +416,13 @@ public final class EventEdgesTest {
             check.due("a lost sheet", x.read(s), -11);
             check.due("its finding", x.count(8), 1);
         }
-        check.due("nothing came", x.count(4), 2);
+        check.due("nothing came", x.count(4), 1);
+        check.due("the first sheet", x.read(0), 1);
+        x.sheet(3, 0, 3);
+        check.due("the last sheet", x.read(3), 1);
+        check.due("they came", x.count(4), 3);
+        x.lose(3);
+        check.due("it is lost", x.read(3), -11);
     }
 
     private static void readWhole() {

@@ -22,8 +22,11 @@ public final class SeenEdgesTest {
         askOfLikeOnes();
         fractions();
         chanceOfEach();
+        chanceOfWhatIsToldNow();
         lots();
+        lotsOfEach();
         ages();
+        agesEnd();
         seenCall();
         forget();
         neverCall();
@@ -230,6 +233,11 @@ public final class SeenEdgesTest {
         check.due("then none", steps.ask(0), 8);
         // what was seen leaves 1 to 5 alone, of which a door of 5 makes all alike, too
         check.due("of those that are left", seen(Check.told("sj", "0a8j;0a8e;0a8c", 0, 7, 0, 0, 8, 0), 7, 0, 0).ask(0), 8);
+        // a carpenter makes the gap 1 of all but 1 itself, whose door cannot be lower
+        check.due("1 is among them", Check.told("sj", "0a8t", 1, 1, 0).ask(0), 1);
+        // doors of 20 and 19: which one is burnt makes a difference of 20 alone
+        check.due("20 is among them", Check.told("sj", "0a8t;0a8s", 0, 1, 0).ask(0), 1);
+        check.due("1 is ruled out, and the rest alike", seen(Check.told("sj", "0a8t", 1, 1, 0), 1, 0, 1).ask(0), 0);
         check.due("one is left", seen(Check.told("sj", "0b8t", 0, 9, 0), 0, 0, 7).ask(0), 0);
     }
 
@@ -293,6 +301,33 @@ public final class SeenEdgesTest {
         chanceIs("surely all of eight", all, 16, 0, 1, 1);
     }
 
+    private static void chanceOfWhatIsToldNow() {
+        check.sentence("the chance that a HOUSE is OPEN: a FRACTION");
+        BrideDoors x = Check.told("sj", "0a8j", 0, 1, 0);
+        chanceIs("hard times", x, 4, 0, 1, 4);
+        x.event(2, 2, 0);
+        chanceIs("and a burglar", x, 4, 0, 7, 16);
+        x.back();
+        chanceIs("who is undone", x, 4, 0, 1, 4);
+        Check.fill(x, 0, 0, 2, 2, 0);
+        x.read(0);
+        chanceIs("and read again", x, 4, 0, 7, 16);
+        x.undo(1);
+        chanceIs("a bride who is undone", x, 4, 0, 1, 1);
+        x.type(1, 'j');
+        chanceIs("and typed again", x, 4, 0, 7, 16);
+        x.wipe(1);
+        chanceIs("and wiped", x, 4, 0, 1, 1);
+        Check.typeAll(x, 1, "0c8j");
+        chanceIs("and comes behind both", x, 4, 0, 0, 1);
+        x.undo(0);
+        check.due("no house", x.chance(4, 0, 0), BAD_LONG);
+        x.type(0, 'a');
+        Check.typeAll(x, 0, ";sa");
+        chanceIs("another house", x, 4, 1, 1, 1);
+        chanceIs("the first house", x, 4, 0, 0, 1);
+    }
+
     /** The lots of a seed, in numbers that do not wrap. */
     private static int[] lotsOf(int seed, int many) {
         BigInteger word = BigInteger.ONE.shiftLeft(32), now = BigInteger.valueOf(seed).mod(word);
@@ -324,6 +359,26 @@ public final class SeenEdgesTest {
             if (1103515245 * seed + 12345 < 0) wraps++;
         }
         check.holds("some of these wrap", wraps > 30 && wraps < 70);
+    }
+
+    private static void lotsOfEach() {
+        check.sentence("of each a LOT of 3 (its kind), a LOT of 24 (its YEAR), a LOT of 6 (its HOUSE)");
+        String houses = "sk;sl;sm;sn;so;sp", brides = "0a8k;1a8l;2a8m;3a8n;4a8o;5a8p";
+        int kinds = 0, years = 0, rooms = 0;
+        for (int seed = -300; seed < 300; seed++) {
+            int[] first = lotsOf(seed, 3);
+            kinds |= 1 << first[0];
+            years |= 1 << first[1];
+            rooms |= 1 << first[2];
+            // a door in year 0 comes behind that year's events
+            int[] draughts = {11 + first[2], 1, 11 + first[2]};
+            String what = "ages(" + seed + ", 1, ";
+            check.due(what + "0)", Check.told(houses, brides).ages(seed, 1, 0), first[1] == 0 ? 0 : draughts[first[0]]);
+            check.due(what + "1)", Check.told(houses, brides).ages(seed, 1, 1), first[1] > 0 && first[0] == 2 ? 1 : 0);
+        }
+        check.due("all kinds were drawn", kinds, 7);
+        check.due("all years were drawn", years, (1 << 24) - 1);
+        check.due("all houses were drawn", rooms, 63);
     }
 
     private static void ages() {
@@ -416,6 +471,19 @@ public final class SeenEdgesTest {
         for (int h : new int[] {-1, 2, 5, 6, FAR[0], FAR[1]}) check.due("house " + h, x.chance(5, h, 0), BAD_LONG);
         for (int what : new int[] {-1, 2, FAR[0], FAR[1]}) check.due("what " + what, x.chance(5, 0, what), BAD_LONG);
         check.due("no houses", new BrideDoors().chance(5, 0, 0), BAD_LONG);
+    }
+
+    private static void agesEnd() {
+        check.sentence("the DRAUGHT behind YEAR 23; how many doors are on the MOOR.");
+        // seed 598 draws burglars in years 8 and 9, both at house 0
+        check.due("two doors, one burglar", Check.told("sj", "0a8j;0a8c").ages(598, 1, 1), 1);
+        check.due("two doors, two burglars", Check.told("sj", "0a8j;0a8c").ages(598, 2, 1), 2);
+        check.due("one door, two burglars", Check.told("sj", "0a8j").ages(598, 2, 1), 1);
+        check.due("no door", Check.told("sj", "").ages(598, 2, 1), 0);
+        check.due("the end, with no door", Check.told("sj", "0a8j;0a8c").ages(598, 2, 0), 10);
+        check.due("the end, with a door in the last year", Check.told("sj", "0a8j;0x8c").ages(598, 2, 0), 7);
+        check.due("the most", Check.told("st;st;st;st;st;st", "").ages(598, 8, 0), 120);
+        check.due("the least", Check.told("", "0a8j").ages(598, 8, 0), 0);
     }
 
     private static void agesCall() {

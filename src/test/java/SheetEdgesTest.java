@@ -26,6 +26,7 @@ public final class SheetEdgesTest {
         copyIndex();
         copyNoItems();
         write();
+        writeGaps();
         writeLowestBits();
         check.finish();
     }
@@ -430,6 +431,21 @@ public final class SheetEdgesTest {
         check.due("and writes nothing", x.get(3, 0, 0), 1);
         found("a lost sheet", x, x.write(0, 0), NULL);
         check.due("no houses", new BrideDoors().write(0, 0), BAD);
+    }
+
+    private static void writeGaps() {
+        check.sentence("The GAP of a HOUSE behind YEARS 0 on comes to a SHEET");
+        BrideDoors x = Check.told("wf;tc", "0a8t;1b8e;1x8t;0d0a", 0, 2, 1, 1, 3, 0, 2, 22, 0, 2, 23, 0);
+        x.sheet(2, 1, 24);
+        for (int h = 0; h < 2; h++) {
+            check.due("write(" + h + ", 2)", x.write(h, 2), 24);
+            for (int year = 0; year <= 23; year++) {
+                check.due("of house " + h + " behind " + year, x.get(2, 1, year), x.at(year, h, 4));
+            }
+        }
+        int[] gaps = {3, 0, 5, 5};
+        items("of turf", x, 2, 1, gaps);
+        check.due("of turf, behind the last", x.get(2, 1, 23), 0);
     }
 
     /** No gap is above 20, so that the lowest bits of each are all of it. */

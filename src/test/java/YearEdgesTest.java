@@ -11,6 +11,7 @@ public final class YearEdgesTest {
         whatADoorIs();
         howHighItIs();
         sawnInAll();
+        draughtBehindAYear();
         dog();
         dogsGap();
         dogsHouse();
@@ -89,6 +90,8 @@ public final class YearEdgesTest {
         }
         check.due("at the end", x.door(23, 0, 1), 7);
         check.due("at the end", x.door(23, 1, 1), 7);
+        check.due("and ahead of her, asked behind that", x.door(0, 0, 1), 0);
+        check.due("and of one who brings none", x.door(23, 2, 1), 0);
     }
 
     private static void sawnInAll() {
@@ -101,9 +104,19 @@ public final class YearEdgesTest {
             }
         }
         check.due("of a door of 1 a carpenter takes nothing", x.door(4, 0, 1), 1);
+        check.due("ahead of her nothing, asked behind that", x.door(0, 0, 2), 0);
         check.due("the most", Check.told("sa", "0a8t").door(0, 0, 2), 19);
         doorIs("what her mother's lost does not count", Check.told("sc;st", "0a8i;1b0a"), 1, 1, 1, 1, 0);
         doorIs("of what is burnt it stays", Check.told("sc", "0a8e", 0, 1, 0), 23, 0, 2, 3, 2);
+    }
+
+    private static void draughtBehindAYear() {
+        check.sentence("DRAUGHT behind a YEAR.");
+        BrideDoors x = Check.told("sj;tc", "0c8j;1x8t", 1, 0, 0, 1, 5, 0, 0, 23, 0);
+        for (int year = 0; year <= 23; year++) {
+            int want = year < 2 ? 13 : year < 5 ? 3 : year < 23 ? 4 : 10;
+            check.due("behind " + year, x.draught(year), want);
+        }
     }
 
     private static void dog() {
