@@ -42,17 +42,10 @@ public final class EventsTest {
         check.due("back() of none", x.back(), NOT);
     }
 
-    private static void fill(BrideDoors x, int s, int form, int... items) {
-        x.sheet(s, form, items.length);
-        for (int i = 0; i < items.length; i++) {
-            x.lay(s, form, i, items[i]);
-        }
-    }
-
     private static void readWhole() {
         for (int form = 0; form < 3; form++) {
             BrideDoors x = Check.told("sj;sj", "0a8j;1a8j");
-            fill(x, form, form, 1, 4, 0, 0, 5, 1, 2, 6);
+            Check.fill(x, form, form, 1, 4, 0, 0, 5, 1, 2, 6);
             check.due("read(), two whole events of form " + form, x.read(form), 2);
             check.due("events", x.count(4), 2);
             check.due("the carpenter came", x.at(4, 0, 4), 1);
@@ -65,9 +58,9 @@ public final class EventsTest {
         BrideDoors x = new BrideDoors();
         x.sheet(0, 0, 0);
         check.due("read() of no items", x.read(0), 0);
-        fill(x, 0, 0, 1, 1);
+        Check.fill(x, 0, 0, 1, 1);
         check.due("read() of two items", x.read(0), 0);
-        fill(x, 0, 0, 1, 1, 1);
+        Check.fill(x, 0, 0, 1, 1, 1);
         check.due("read() of three items", x.read(0), 1);
     }
 
@@ -75,7 +68,7 @@ public final class EventsTest {
         int[][] bad = {{3, 0, 0}, {-1, 0, 0}, {0, 24, 0}, {0, -1, 0}, {0, 0, 6}, {0, 0, -1}};
         for (int[] e : bad) {
             BrideDoors x = new BrideDoors();
-            fill(x, 3, 2, 2, 23, 5, e[0], e[1], e[2], 0, 0, 0);
+            Check.fill(x, 3, 2, 2, 23, 5, e[0], e[1], e[2], 0, 0, 0);
             check.due("read() ends at (" + e[0] + ", " + e[1] + ", " + e[2] + ")", x.read(3), 1);
             check.due("events", x.count(4), 1);
         }

@@ -1,5 +1,4 @@
 import java.util.function.IntBinaryOperator;
-import java.util.function.IntFunction;
 import java.util.stream.IntStream;
 
 /** Each sentence of the passage '======== 3' that names an edge, and promises 18 to 21. */
@@ -28,18 +27,35 @@ public final class PlanEdgesTest {
         check.finish();
     }
 
-    /** The plan as the document tells it: another text for each value, and the draught at the end of it. */
-    private static void leastOf(String what, int which, int much, int[] values, IntFunction<BrideDoors> other) {
-        int best = NONE, least = NONE;
-        for (int value : values) {
-            int draught = other.apply(value).draught(23);
-            if (best == NONE || draught < least) {
-                best = value;
-                least = draught;
+    interface Plan {
+        int of(BrideDoors x, int bride, int what);
+    }
+
+    interface Values {
+        int[] of(String houses, int bride);
+    }
+
+    /** The plan as the document tells it: another sign in the text of brides for each value, and the draught at the end. */
+    private static void byRetelling(int column, char first, Values values, Plan plan) {
+        for (String houses : HOUSES) {
+            for (String brides : BRIDES) {
+                BrideDoors x = Check.told(houses, brides, EVENTS);
+                for (int b = 0; 5 * b < brides.length(); b++) {
+                    int place = 5 * b + column, best = NONE, least = NONE;
+                    for (int value : values.of(houses, b)) {
+                        int draught = Check.told(houses, withSign(brides, place, first + value), EVENTS).draught(23);
+                        if (best == NONE || draught < least) {
+                            best = value;
+                            least = draught;
+                        }
+                    }
+                    String what = "'" + houses + "' '" + brides + "', of " + b;
+                    check.due(what + ", which", plan.of(x, b, 0), best);
+                    check.due(what + ", how much", plan.of(x, b, 1), least);
+                    check.due("what is told stays so", x.bride(b, column), brides.charAt(place) - first);
+                }
             }
         }
-        check.due(what + ", which", which, best);
-        check.due(what + ", how much", much, least);
     }
 
     private static String withSign(String text, int place, int sign) {
@@ -50,23 +66,9 @@ public final class PlanEdgesTest {
         return IntStream.rangeClosed(0, last).filter(i -> i != but).toArray();
     }
 
-    private static int brides(String text) {
-        return (text.length() + 1) / 5;
-    }
-
     private static void wedInPlaceOfWhatIsTold() {
         check.sentence("the HOUSE (that there is), in place of what is told, by which the DRAUGHT behind YEAR 23 is least, of like ones the least");
-        for (String houses : HOUSES) {
-            for (String brides : BRIDES) {
-                BrideDoors x = Check.told(houses, brides, EVENTS);
-                for (int b = 0; b < brides(brides); b++) {
-                    int place = 5 * b;
-                    leastOf("wed(" + b + ")", x.wed(b, 0), x.wed(b, 1), upTo((houses.length() + 1) / 3 - 1, NONE),
-                        v -> Check.told(houses, withSign(brides, place, '0' + v), EVENTS));
-                    check.due("what is told stays so", x.bride(b, 0), brides.charAt(place) - '0');
-                }
-            }
-        }
+        byRetelling(0, '0', (houses, b) -> upTo((houses.length() + 1) / 3 - 1, NONE), BrideDoors::wed);
         check.due("the first of like ones", Check.told(SIX, "3a8a").wed(0, 0), 0);
         check.due("the last house", Check.told("sa;sa;sa;sa;sa;sb", "3a8b").wed(0, 0), 5);
         check.due("she is told to one that there is not", Check.told("sa;sb", "5a8b").wed(0, 0), 1);
@@ -84,17 +86,7 @@ public final class PlanEdgesTest {
 
     private static void whenInPlaceOfHers() {
         check.sentence("WHEN of one of BRIDES: the YEAR, in place of hers, likewise: which; how much.");
-        for (String houses : HOUSES) {
-            for (String brides : BRIDES) {
-                BrideDoors x = Check.told(houses, brides, EVENTS);
-                for (int b = 0; b < brides(brides); b++) {
-                    int place = 5 * b + 1;
-                    leastOf("when(" + b + ")", x.when(b, 0), x.when(b, 1), upTo(23, NONE),
-                        v -> Check.told(houses, withSign(brides, place, 'a' + v), EVENTS));
-                    check.due("what is told stays so", x.bride(b, 1), brides.charAt(place) - 'a');
-                }
-            }
-        }
+        byRetelling(1, 'a', (houses, b) -> upTo(23, NONE), BrideDoors::when);
         check.due("the first year of like ones", Check.told("sj", "0x8j").when(0, 0), 0);
         check.due("the last year", Check.told("sj", "0a8j", 0, 23, 0).when(0, 0), 23);
         check.due("the one ahead of it", Check.told("sj", "0a8j", 0, 22, 0).when(0, 0), 22);
@@ -104,17 +96,7 @@ public final class PlanEdgesTest {
 
     private static void fromInPlaceOfWhatIsTold() {
         check.sentence("her MOTHER (0 to 8, but herself), in place of what is told, likewise: which; how much");
-        for (String houses : HOUSES) {
-            for (String brides : BRIDES) {
-                BrideDoors x = Check.told(houses, brides, EVENTS);
-                for (int b = 0; b < brides(brides); b++) {
-                    int place = 5 * b + 2;
-                    leastOf("from(" + b + ")", x.from(b, 0), x.from(b, 1), upTo(8, b),
-                        v -> Check.told(houses, withSign(brides, place, '0' + v), EVENTS));
-                    check.due("what is told stays so", x.bride(b, 2), brides.charAt(place) - '0');
-                }
-            }
-        }
+        byRetelling(2, '0', (houses, b) -> upTo(8, b), BrideDoors::from);
         BrideDoors like = Check.told("sj", "5a8a;5a8a;5a8a;5a8a;5a8a;5a8a;5a8a;5a8a");
         check.due("all are alike: not herself", like.from(0, 0), 1);
         check.due("all are alike: the least", like.from(7, 0), 0);
